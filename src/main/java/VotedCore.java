@@ -282,9 +282,13 @@ public final class VotedCore {
         }
     }
 
-    /** Ends an instruction that goes on to the one behind it. */
+    /** Ends an instruction that gives a result and goes on to the one behind it. */
     private void finish(int p, int d, int result) {
         registers.putResult(d, result);
+        goOn(p);
+    }
+
+    private void goOn(int p) {
         registers.put(PLACE, p + 4);
     }
 
@@ -314,11 +318,11 @@ public final class VotedCore {
         }
         int a = registers.operand(Code.s(code));
         int b = registers.operand(Code.t(code));
-        // A branch has no D: register 0 gets nothing.
         if (Code.isTaken(f, a, b)) {
+            // A branch keeps no way back, and register 0 gets nothing.
             jump(p, 0, p + Code.k(code));
         } else {
-            finish(p, 0, 0);
+            goOn(p);
         }
     }
 
@@ -356,7 +360,7 @@ public final class VotedCore {
         int w = address >>> 2;
         if (f == 2) {
             save(w, b);
-            finish(p, 0, 0);
+            goOn(p);
             return;
         }
         long old = fetch(dataCache, w);
@@ -366,7 +370,7 @@ public final class VotedCore {
         }
         int mask = (f == 0 ? 0xFF : 0xFFFF) << Code.shiftOf(address);
         save(w, (int) old & ~mask | b << Code.shiftOf(address) & mask);
-        finish(p, 0, 0);
+        goOn(p);
     }
 
     private void computeWithNumber(int p, int code) {
@@ -401,7 +405,7 @@ public final class VotedCore {
             stop(ILLEGAL, code);
             return;
         }
-        finish(p, 0, 0);
+        goOn(p);
     }
 
     private void callOrBreak(int code) {

@@ -17,6 +17,7 @@ public final class InstructionsTest {
         storeAddresses();
         register0();
         nothing();
+        thoseWithoutAResult();
         illegalOnes();
         place();
         orderOfTests();
@@ -305,6 +306,25 @@ public final class InstructionsTest {
         gives("nothing, with other fields", 15 | 3 << 7 | 1 << 15 | 2 << 20 | 127 << 25, 1, 1, 12345);
     }
 
+    /** Branches, stores and the one that does nothing leave all registers but the place, whatever their bits 7 .. 11 say. */
+    private static void thoseWithoutAResult() {
+        int[] instructions = {
+            Asm.branch(0, 0, 0, 20), Asm.branch(1, 0, 0, 20), Asm.branch(0, 0, 0, 12), Asm.store(0, 3, 0, 41),
+            Asm.store(1, 3, 0, 42), Asm.store(2, 3, 0, 44), 15 | 3 << 7
+        };
+        for (int instruction : instructions) {
+            VotedCore x = Asm.core(instruction);
+            for (int r = 1; r < 32; r++) {
+                x.set(r, 7000 + r);
+            }
+            x.run(1);
+            Check.due(instruction + ": cause", x.cause(), 0);
+            for (int r = 1; r < 32; r++) {
+                Check.due(instruction + ": register " + r, x.register(r), 7000 + r);
+            }
+        }
+    }
+
     private static void illegal(int instruction) {
         stops("illegal " + instruction, Asm.core(instruction), 2, instruction);
     }
@@ -377,6 +397,10 @@ public final class InstructionsTest {
         x.flip(0, 0);
         x.flip(0, 1);
         stops("CHECK before ILLEGAL", x, 5, 0);
+        x = at(63, -1);
+        x.flip(63, 0);
+        x.flip(63, 1);
+        stops("CHECK tells the word's number", x, 5, 63);
         x = Asm.core(-1);
         x.flip(0, 0);
         x.flip(0, 1);

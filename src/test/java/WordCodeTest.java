@@ -99,34 +99,35 @@ public final class WordCodeTest {
         }
     }
 
-    private static void twoWrongBitsAreBroken(int value) {
+    private static VotedCore holding(int value) {
         VotedCore x = new VotedCore(64);
         x.write(7, value);
+        return x;
+    }
+
+    private static void twoWrongBitsAreBroken(int value) {
         for (int one = 0; one < 39; one++) {
+            VotedCore x = holding(value);
             x.flip(7, one);
             for (int two = one + 1; two < 39; two++) {
                 x.flip(7, two);
                 Check.due(value + ", wrong bits " + one + " and " + two, x.look(7), -2);
                 x.flip(7, two);
             }
-            x.flip(7, one);
         }
     }
 
     private static void threeWrongBits(int value) {
-        VotedCore x = new VotedCore(64);
-        x.write(7, value);
         boolean broken = false;
         for (int one = 0; one < 37; one++) {
-            for (int two = one + 1; two < 38; two += 3) {
-                x.flip(7, one);
+            VotedCore x = holding(value);
+            x.flip(7, one);
+            x.flip(7, 38);
+            for (int two = one + 1; two < 38; two++) {
                 x.flip(7, two);
-                x.flip(7, 38);
                 Check.due(value + ", wrong bits " + one + ", " + two + ", 38", x.look(7), dueLook(x.bits(7)));
                 broken |= x.look(7) == -2;
-                x.flip(7, one);
                 x.flip(7, two);
-                x.flip(7, 38);
             }
         }
         Check.due("some of them have a number above 38", broken, true);
