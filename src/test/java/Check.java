@@ -2,15 +2,26 @@
 final class Check {
     private static int wrong;
     private static int seen;
+    private static int sentences;
+    private static int seenBefore;
+    private static String sentence = "";
 
     private Check() {
+    }
+
+    /** Names the document's sentence that the answers from here on are about; each must have an answer. */
+    static void sentence(String where, String words) {
+        endSentence();
+        sentences++;
+        sentence = where + ", '" + words + "'";
     }
 
     static void due(String what, long got, long want) {
         seen++;
         if (got != want) {
             wrong++;
-            System.out.println(what + " answered " + got + ", due is " + want);
+            System.out.println((sentence.isEmpty() ? "" : sentence + ": ")
+                + what + " answered " + got + ", due is " + want);
         }
     }
 
@@ -19,9 +30,18 @@ final class Check {
     }
 
     static void end() {
-        System.out.println(seen + " answers, " + wrong + " of them not as due");
+        endSentence();
+        System.out.println(seen + " answers to " + sentences + " sentences, " + wrong + " of them not as due");
         if (wrong != 0 || seen == 0) {
             System.exit(1);
         }
+    }
+
+    private static void endSentence() {
+        if (!sentence.isEmpty() && seen == seenBefore) {
+            wrong++;
+            System.out.println(sentence + " was not asked about");
+        }
+        seenBefore = seen;
     }
 }

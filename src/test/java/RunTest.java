@@ -1,14 +1,27 @@
-/** Promises 10 to 15: cycles, causes, resuming and counts. */
+/** Promises 10 to 15: running, causes, resuming and counts; and an object's last calls. */
 public final class RunTest {
+    private static final int MIN = Integer.MIN_VALUE;
+    private static final int MAX = Integer.MAX_VALUE;
+
     public static void main(String[] args) {
-        promise10Run();
-        promises11And12CauseAndValue();
-        promise13Resume();
-        promise14Cycles();
-        promise15Count();
-        scrubber();
-        scrubberAfterAStop();
-        vote();
+        doesCycles();
+        untilItStops();
+        thatOneCounts();
+        noneWhenStopped();
+        badNumberOfCycles();
+        causes();
+        noCauseWhileItRuns();
+        values();
+        noValueWhileItRuns();
+        resumes();
+        resumesAnywhere();
+        countsGoOn();
+        noResumeWhileItRuns();
+        cyclesDone();
+        counts();
+        noSuchCount();
+        atMost512Calls();
+        manyCycles();
         Check.end();
     }
 
@@ -18,94 +31,223 @@ public final class RunTest {
         return x;
     }
 
-    private static void promise10Run() {
+    private static void doesCycles() {
+        Check.sentence("Promise 10", "Does n cycles");
         VotedCore x = looping(64);
-        Check.due("run -1", x.run(-1), -1);
-        Check.due("run 501", x.run(501), -1);
-        Check.due("run the least", x.run(Integer.MIN_VALUE), -1);
-        Check.due("run the greatest", x.run(Integer.MAX_VALUE), -1);
-        Check.due("no cycle was done", x.cycles(), 0);
+        int due = 0;
+        for (int n : new int[] {0, 1, 2, 63, 64, 127, 128, 255, 256, 499, 500, 500, 0}) {
+            Check.due("run " + n, x.run(n), n);
+            due += n;
+            Check.due("cycles after run " + n, x.cycles(), due);
+        }
+        x = Whole.busy(false);
+        Whole before = Whole.of(x);
         Check.due("run 0", x.run(0), 0);
-        Check.due("run 1", x.run(1), 1);
-        Check.due("run 500", x.run(500), 500);
-        Check.due("cycles", x.cycles(), 501);
-        x = Asm.core(Asm.NOP, Asm.NOP, Asm.CALL);
-        Check.due("the stopping cycle counts", x.run(500), 3);
-        Check.due("none when stopped", x.run(500), 0);
-        Check.due("run 0 when stopped", x.run(0), 0);
-        Check.due("run 501 when stopped", x.run(501), -1);
-        Check.due("run -1 when stopped", x.run(-1), -1);
-        x = Asm.core(Asm.NOP, Asm.NOP, Asm.CALL);
+        before.stays("run 0 does nothing", x);
+    }
+
+    private static void untilItStops() {
+        Check.sentence("Promise 10", "or as many as there are until it stops");
+        VotedCore x = Asm.core(Asm.NOP, Asm.NOP, Asm.CALL, Asm.NOP);
         Check.due("up to the stop", x.run(2), 2);
         Check.due("it still runs", x.cause(), 0);
+        Check.due("the rest", x.run(2), 1);
+        Check.due("it stopped", x.cause(), 3);
+        Check.due("there", x.register(0), 8);
     }
 
-    private static void promises11And12CauseAndValue() {
-        stops("ADDRESS", Asm.jumpBy(0, 0, 6), 1, 6);
-        stops("ILLEGAL", -1, 2, -1);
-        stops("CALL", Asm.CALL, 3, 0);
-        stops("BREAK", Asm.BREAK, 4, 0);
-        VotedCore x = Asm.core(Asm.load(2, 1, 0, 40));
+    private static void thatOneCounts() {
+        Check.sentence("Promise 10", "(that one counts;");
+        for (int first = 1; first <= 4; first++) {
+            VotedCore x = new VotedCore(64);
+            for (int w = 0; w < first; w++) {
+                x.write(w, w == first - 1 ? Asm.BREAK : Asm.NOP);
+            }
+            Check.due("it stops in cycle " + first, x.run(500), first);
+            Check.due("cycles", x.cycles(), first);
+        }
+        VotedCore x = Asm.core(Asm.NOP, Asm.NOP, Asm.CALL);
+        Check.due("it stops in the last cycle asked for", x.run(3), 3);
+        Check.due("with its cause", x.cause(), 3);
+    }
+
+    private static void noneWhenStopped() {
+        Check.sentence("Promise 10", "none when it does not run)");
+        VotedCore x = Asm.core(Asm.CALL, Asm.NOP);
+        x.run(1);
+        for (int n : new int[] {0, 1, 500}) {
+            Check.due("run " + n, x.run(n), 0);
+        }
+        Check.due("cycles", x.cycles(), 1);
+        Check.due("cause", x.cause(), 3);
+    }
+
+    private static void badNumberOfCycles() {
+        Check.sentence("Promise 10", "BAD when n is not 0 .. 500.");
+        for (int i = 0; i < 2; i++) {
+            VotedCore x = Whole.busy(i == 1);
+            Whole before = Whole.of(x);
+            for (int n : new int[] {-1, 501, -500, 502, 1000, 65536, MIN, MAX}) {
+                Check.due("run " + n, x.run(n), -1);
+            }
+            before.stays("no cycle", x);
+        }
+    }
+
+    /** Stops with the cause, which is 1 to 5. */
+    private static VotedCore stopped(int cause) {
+        int[] stopping = {Asm.jumpBy(0, 0, 6), -1, Asm.CALL, Asm.BREAK, Asm.load(2, 1, 0, 40)};
+        VotedCore x = Asm.core(Asm.NOP, stopping[cause - 1]);
         x.flip(10, 1);
         x.flip(10, 2);
-        x.run(1);
-        Check.due("CHECK", x.cause(), 5);
-        Check.due("its value", x.value(), 10);
-        x.resume(0);
-        Check.due("cause while it runs", x.cause(), 0);
-        Check.due("value while it runs", x.value(), 0);
+        x.run(2);
+        return x;
     }
 
-    private static void stops(String name, int instruction, int cause, int value) {
-        VotedCore x = Asm.core(Asm.NOP, instruction);
-        x.run(1);
-        Check.due(name + ": not yet", x.cause(), 0);
-        Check.due(name + ": no value yet", x.value(), 0);
-        Check.due(name + ": stops at once", x.run(3), 1);
-        Check.due(name + ": cause", x.cause(), cause);
-        Check.due(name + ": value", x.value(), value);
-        Check.due(name + ": the place stays", x.register(0), 4);
-    }
-
-    private static void promise13Resume() {
-        VotedCore x = Asm.core(Asm.CALL, Asm.NOP, Asm.NOP);
-        Check.due("it runs", x.resume(4), false);
-        Check.due("the place stays", x.register(0), 0);
-        x.run(1);
-        x.flip(64, 5);
-        Check.due("it stopped", x.resume(4), true);
-        for (int c = 0; c < 3; c++) {
-            Check.due("copy " + c + " of the place", x.bits(64 + c), 4);
+    private static void causes() {
+        Check.sentence("Promise 11", "0 while it runs, else the cause.");
+        for (int cause = 1; cause <= 5; cause++) {
+            VotedCore x = stopped(cause);
+            Check.due("cause " + cause, x.cause(), cause);
+            x.write(10, 0);
+            x.set(1, 1);
+            x.set(0, 0);
+            x.flip(1, 1);
+            x.run(1);
+            Check.due("it stays stopped with " + cause, x.cause(), cause);
         }
-        Check.due("it runs again", x.resume(8), false);
-        Check.due("from there", x.register(0), 4);
-        Check.due("cycles go on", x.cycles(), 1);
-        x.run(1);
-        Check.due("cycles went on", x.cycles(), 2);
-        Check.due("the next place", x.register(0), 8);
-        resumeAt(-4);
-        resumeAt(3);
-        resumeAt(256);
-        resumeAt(Integer.MIN_VALUE);
-        resumeAt(Integer.MAX_VALUE);
     }
 
-    private static void resumeAt(int place) {
-        VotedCore x = Asm.core(Asm.CALL);
+    private static void noCauseWhileItRuns() {
+        Check.sentence("Promise 11", "0 while it runs");
+        VotedCore x = Asm.core(Asm.NOP, Asm.CALL);
+        Check.due("at first", x.cause(), 0);
         x.run(1);
-        Check.due("resume " + place, x.resume(place), true);
-        Check.due("place " + place, x.register(0), place);
-        x.run(1);
-        Check.due("cause at " + place, x.cause(), 1);
-        Check.due("value at " + place, x.value(), place);
+        Check.due("after a cycle", x.cause(), 0);
+        for (int cause = 1; cause <= 5; cause++) {
+            VotedCore y = stopped(cause);
+            y.resume(0);
+            Check.due("resumed from " + cause, y.cause(), 0);
+        }
     }
 
-    private static void promise14Cycles() {
+    private static void values() {
+        Check.sentence("Promise 12", "The value told with the cause");
+        int[] due = {6, -1, 0, 0, 10};
+        for (int cause = 1; cause <= 5; cause++) {
+            VotedCore x = stopped(cause);
+            Check.due("value of cause " + cause, x.value(), due[cause - 1]);
+            x.write(10, 0);
+            x.run(1);
+            Check.due("it stays, cause " + cause, x.value(), due[cause - 1]);
+        }
+        VotedCore x = stopped(2);
+        x.resume(4);
+        x.write(1, Asm.CALL);
+        x.run(1);
+        Check.due("the next stop has its own", x.value(), 0);
+    }
+
+    private static void noValueWhileItRuns() {
+        Check.sentence("Promise 12", "The value told with the cause; 0 while it runs.");
+        VotedCore x = Asm.core(Asm.NOP, -1);
+        Check.due("at first", x.value(), 0);
+        x.run(1);
+        Check.due("after a cycle", x.value(), 0);
+        for (int cause = 1; cause <= 5; cause++) {
+            VotedCore y = stopped(cause);
+            y.resume(0);
+            Check.due("resumed from " + cause, y.value(), 0);
+            y.run(1);
+            Check.due("and after a cycle", y.value(), 0);
+        }
+    }
+
+    private static void resumes() {
+        Check.sentence("Promise 13", "Runs again, with this place");
+        for (int cause = 1; cause <= 5; cause++) {
+            VotedCore x = stopped(cause);
+            x.flip(64, 5);
+            Check.due("resume from " + cause, x.resume(0), true);
+            for (int c = 0; c < 3; c++) {
+                Check.due("copy " + c + " of the place", x.bits(64 + c), 0);
+            }
+            Check.due("it runs", x.run(1), 1);
+            Check.due("from there", x.register(0), 4);
+        }
+    }
+
+    private static void resumesAnywhere() {
+        Check.sentence("Promise 13", "(any;");
+        for (int place : new int[] {-4, -1, 1, 2, 3, 255, 256, MIN, MAX}) {
+            VotedCore x = stopped(3);
+            Check.due("resume " + place, x.resume(place), true);
+            Check.due("place " + place, x.register(0), place);
+            Check.due("it runs", x.cause(), 0);
+            Check.due("one cycle", x.run(5), 1);
+            Check.due("cause at " + place, x.cause(), 1);
+            Check.due("value at " + place, x.value(), place);
+        }
+        VotedCore x = stopped(3);
+        x.resume(252);
+        x.run(1);
+        Check.due("the last word", x.cause(), 2);
+    }
+
+    private static void countsGoOn() {
+        Check.sentence("Promise 13", "cycles and counts go on)");
+        VotedCore x = new VotedCore(1);
+        x.write(0, Asm.CALL);
+        x.flip(0, 4);
+        x.flip(1, 3);
+        x.flip(1, 5);
+        x.flip(70, 3);
+        x.flip(160, 3);
+        x.run(1);
+        x.resume(0);
+        x.flip(164, 3);
+        x.write(0, Asm.load(2, 1, 0, 16));
+        x.flip(164, 3);
+        x.run(1);
+        x.set(0, 2);
+        x.run(1);
+        int[] before = new int[6];
+        for (int what = 0; what < 6; what++) {
+            before[what] = x.count(what);
+            Check.due("count " + what + " has grown", before[what] > 0, true);
+        }
+        Check.due("resume", x.resume(0), true);
+        for (int what = 0; what < 6; what++) {
+            Check.due("count " + what, x.count(what), before[what]);
+        }
+        Check.due("cycles", x.cycles(), 3);
+        x.run(1);
+        Check.due("cycles go on", x.cycles(), 4);
+        Check.due("the scrubber goes on", x.count(5), before[5] + 1);
+    }
+
+    private static void noResumeWhileItRuns() {
+        Check.sentence("Promise 13", "false when it runs");
+        VotedCore x = Whole.busy(false);
+        Whole before = Whole.of(x);
+        for (int place : new int[] {0, 4, -1, MIN, MAX}) {
+            Check.due("resume " + place, x.resume(place), false);
+        }
+        before.stays("no resume", x);
+        x = stopped(3);
+        Check.due("once", x.resume(4), true);
+        Check.due("not twice", x.resume(8), false);
+        Check.due("the place of the first", x.register(0), 4);
+    }
+
+    private static void cyclesDone() {
+        Check.sentence("Promise 14", "How many cycles were done.");
         VotedCore x = looping(1);
         Check.due("at first", x.cycles(), 0);
         x.run(3);
         x.run(0);
         x.run(600);
+        x.run(-4);
         x.run(4);
         Check.due("seven", x.cycles(), 7);
         x.write(0, Asm.CALL);
@@ -114,113 +256,88 @@ public final class RunTest {
         Check.due("eight, the stopping one too", x.cycles(), 8);
     }
 
-    private static void promise15Count() {
-        VotedCore x = looping(64);
-        Check.due("count 6", x.count(6), -1);
-        Check.due("count -1", x.count(-1), -1);
-        Check.due("count of the greatest", x.count(Integer.MAX_VALUE), -1);
-        Check.due("count of the least", x.count(Integer.MIN_VALUE), -1);
-        x = Asm.core(Asm.load(2, 1, 0, 40), Asm.load(2, 1, 0, 40), Asm.CALL);
-        x.flip(10, 4);
-        x.flip(162, 0);
-        x.run(1);
-        Check.due("corrected", x.count(0), 1);
-        Check.due("refetched of cache 1", x.count(4), 0);
-        x.flip(166, 0);
-        x.flip(161, 1);
-        x.flip(70, 1);
-        x.run(2);
-        Check.due("corrected still", x.count(0), 1);
-        Check.due("detected", x.count(1), 0);
-        Check.due("voted", x.count(2), 1);
-        Check.due("refetched of cache 0", x.count(3), 2);
-        Check.due("refetched of cache 1", x.count(4), 1);
-        Check.due("the scrubber's place", x.count(5), 0);
-        x.resume(0);
-        Check.due("counts go on", x.count(0), 1);
+    private static void counts() {
+        Check.sentence("Promise 15", "0 CORRECTED, 1 DETECTED, 2 VOTED, 3 and 4 REFETCHED of cache 0 and 1, 5 the scrubber's place");
+        for (int what = 0; what < 6; what++) {
+            VotedCore x = new VotedCore(what == 1 || what == 5 ? 1 : 64);
+            x.write(10, Asm.load(2, 1, 0, 80));
+            x.set(0, 40);
+            int[] parts = {20, 0, 67, 162, 164};
+            if (what < 5) {
+                x.flip(parts[what], 9);
+            }
+            if (what == 1) {
+                x.flip(0, 10);
+            }
+            x.run(1);
+            for (int other = 0; other < 5; other++) {
+                Check.due("count " + other + " where " + what + " is meant", x.count(other), other == what ? 1 : 0);
+            }
+            Check.due("the scrubber's place", x.count(5), what == 1 || what == 5 ? 1 : 0);
+        }
     }
 
-    private static void scrubber() {
-        VotedCore x = looping(2);
-        x.flip(0, 9);
-        x.flip(1, 0);
-        x.flip(2, 7);
-        x.flip(2, 30);
-        x.flip(63, 38);
-        x.run(1);
-        Check.due("fetching corrects word 0", x.count(0), 1);
-        x.run(1);
-        Check.due("word 0 is good", x.count(0), 1);
-        x.run(1);
-        Check.due("its turn comes in every second cycle", x.count(5), 1);
-        x.run(1);
-        Check.due("word 1 is put right", x.count(0), 2);
-        Check.due("where it is kept", x.bits(1), 0);
-        Check.due("the next is word 2", x.count(5), 2);
-        x.run(2);
-        Check.due("word 2 is broken", x.count(1), 1);
-        Check.due("it stays so", x.look(2), -2);
-        Check.due("it is not corrected", x.count(0), 2);
-        x.run(120);
-        Check.due("the last place", x.count(5), 63);
-        x.run(2);
-        Check.due("behind it is 0", x.count(5), 0);
-        Check.due("the last word is put right", x.bits(63), 0);
-        Check.due("corrected", x.count(0), 3);
-        x.run(6);
-        Check.due("a broken word is detected again", x.count(1), 2);
-        Check.due("it never stops for that", x.cause(), 0);
+    private static void noSuchCount() {
+        Check.sentence("Promise 15", "BAD for another number.");
+        VotedCore x = Whole.busy(false);
+        for (int what : new int[] {-1, 6, 7, -5, 64, MIN, MAX}) {
+            Check.due("count " + what, x.count(what), -1);
+        }
+        Check.due("count 5", x.count(5), 1);
     }
 
-    private static void scrubberAfterAStop() {
-        VotedCore x = new VotedCore(1);
-        x.flip(0, 1);
-        x.flip(0, 2);
-        Check.due("a broken instruction stops it", x.run(5), 1);
-        Check.due("CHECK", x.cause(), 5);
-        Check.due("of word 0", x.value(), 0);
-        Check.due("reading it detects nothing, scrubbing it does", x.count(1), 1);
-        Check.due("the place went on", x.count(5), 1);
-        x.run(5);
-        Check.due("no scrubbing while stopped", x.count(5), 1);
-        VotedCore y = new VotedCore(3);
-        y.run(1);
-        y.resume(0);
-        y.run(1);
-        Check.due("two cycles of three", y.count(5), 0);
-        y.resume(0);
-        y.run(1);
-        Check.due("the third, though each stopped", y.count(5), 1);
+    private static void atMost512Calls() {
+        Check.sentence("What it is", "An object is used for at most 512 calls after it has been made");
+        VotedCore x = looping(1);
+        for (int call = 2; call < 512; call++) {
+            x.flip(1, 0);
+        }
+        Check.due("flips, and a 512th call", x.bits(1), 0);
+        x = looping(1);
+        for (int call = 2; call < 512; call++) {
+            x.write(63, call);
+        }
+        Check.due("writes, and a 512th call", x.look(63), 511);
+        x = looping(1);
+        for (int call = 2; call < 512; call += 2) {
+            x.flip(70, 0);
+            x.run(1);
+        }
+        Check.due("votes, and a 512th call", x.count(2), 255);
+        x = new VotedCore(1);
+        for (int call = 1; call < 511; call += 2) {
+            x.run(1);
+            x.resume(0);
+        }
+        x.run(1);
+        Check.due("stops, and a 512th call", x.cycles(), 256);
+        x = looping(64);
+        for (int call = 2; call < 512; call++) {
+            x.plan(1, 1, 1);
+        }
+        Check.due("plans, and a 512th call", x.planned(), 16);
     }
 
-    private static void vote() {
-        VotedCore x = looping(64);
-        for (int r = 0; r < 32; r++) {
-            x.flip(64 + 3 * r + r % 3, r);
+    private static void manyCycles() {
+        Check.sentence("What it is", "An object is used for at most 512 calls");
+        VotedCore x = looping(1);
+        for (int call = 2; call < 511; call++) {
+            Check.due("run", x.run(500), 500);
         }
+        Check.due("500 cycles in each of 509 calls", x.cycles(), 254500);
+        Check.due("one more call", x.run(500), 500);
+        x = looping(1);
         x.run(1);
-        Check.due("every register was voted on", x.count(2), 32);
-        for (int part = 64; part < 160; part++) {
-            Check.due("part " + part, x.bits(part), 0);
+        // The instruction is in its line, so that it is done though all words are broken.
+        for (int w = 0; w < 64; w++) {
+            x.flip(w, 0);
+            x.flip(w, 38);
         }
-        x.run(1);
-        Check.due("they are equal now", x.count(2), 32);
-        for (int c = 0; c < 3; c++) {
-            x.flip(64 + 3 * 5 + c, 3);
+        for (int call = 131; call < 510; call++) {
+            x.run(500);
         }
-        x.run(1);
-        Check.due("three equal copies need no vote", x.count(2), 32);
-        Check.due("though all are wrong", x.register(5), 8);
-        for (int c = 0; c < 3; c++) {
-            x.flip(64 + 3 * 6 + c, c);
-        }
-        x.run(1);
-        Check.due("three that differ count once", x.count(2), 33);
-        Check.due("bit by bit", x.register(6), 0);
-        VotedCore y = Asm.core(Asm.NOP, Asm.NOP);
-        y.flip(65, 2);
-        y.run(1);
-        Check.due("the place is voted on before it is used", y.register(0), 4);
-        Check.due("and counts", y.count(2), 1);
+        x.plan(1000, 70, 0);
+        x.run(500);
+        Check.due("a broken word in each cycle", x.count(1), 190000);
     }
 }

@@ -1,52 +1,48 @@
-/** Promises 1 to 7: a new object, and the calls that read and change what is stored. */
+/** Promises 1 to 7 and the parts: a new object, and the calls that read and change what is stored. */
 public final class StateTest {
     private static final int PARTS = 168;
+    private static final int MIN = Integer.MIN_VALUE;
+    private static final int MAX = Integer.MAX_VALUE;
 
     public static void main(String[] args) {
-        promise1NewObject();
-        promise1EveryIsTheNearestNumber();
-        promise2Write();
-        promise3Set();
-        promise4Register();
-        promise5Look();
-        promise6Bits();
-        promise7Flip();
+        everyIsTheNearestNumber();
+        allIsZero();
+        itRuns();
+        noCycleWasDone();
+        writtenRunningOrStopped();
+        allLinesAreDropped();
+        noWordToWrite();
+        allCopiesAreSet();
+        thePlaceIsSet();
+        noRegisterToSet();
+        registerTells();
+        noRegisterToTell();
+        lookTells();
+        lookPutsNothingRight();
+        lookAtABrokenWord();
+        noWordToLookAt();
+        partsAndTheirNumbers();
+        bitsTell();
+        noPartToTell();
+        flipNow();
+        noPartToFlip();
+        noBitToFlip();
         Check.end();
     }
 
-    private static void promise1NewObject() {
-        VotedCore x = new VotedCore(4);
-        for (int part = 0; part < PARTS; part++) {
-            Check.due("new: bits " + part, x.bits(part), 0);
-        }
-        for (int w = 0; w < 64; w++) {
-            Check.due("new: look " + w, x.look(w), 0);
-        }
-        for (int r = 0; r < 32; r++) {
-            Check.due("new: register " + r, x.register(r), 0);
-        }
-        for (int what = 0; what < 6; what++) {
-            Check.due("new: count " + what, x.count(what), 0);
-        }
-        Check.due("new: planned", x.planned(), 0);
-        Check.due("new: cycles", x.cycles(), 0);
-        Check.due("new: cause", x.cause(), 0);
-        Check.due("new: value", x.value(), 0);
-        Check.due("new: it runs, so no resume", x.resume(0), false);
-        Check.due("new: it runs", x.run(1), 1);
-    }
-
-    private static void promise1EveryIsTheNearestNumber() {
-        everyIs(Integer.MIN_VALUE, 1);
+    private static void everyIsTheNearestNumber() {
+        Check.sentence("Promise 1", "EVERY is the nearest number of 1 .. 64.");
+        everyIs(MIN, 1);
+        everyIs(-64, 1);
         everyIs(-1, 1);
         everyIs(0, 1);
         everyIs(1, 1);
         everyIs(2, 2);
-        everyIs(7, 7);
         everyIs(63, 63);
         everyIs(64, 64);
         everyIs(65, 64);
-        everyIs(Integer.MAX_VALUE, 64);
+        everyIs(128, 64);
+        everyIs(MAX, 64);
     }
 
     private static void everyIs(int asked, int every) {
@@ -56,161 +52,346 @@ public final class StateTest {
         Check.due("every " + asked + ": the scrubber waits", x.count(5), 0);
         x.run(1);
         Check.due("every " + asked + ": the scrubber came", x.count(5), 1);
-        x.run(every);
+        x.run(every - 1);
+        Check.due("every " + asked + ": the scrubber waits again", x.count(5), 1);
+        x.run(1);
         Check.due("every " + asked + ": the scrubber came again", x.count(5), 2);
     }
 
-    private static void promise2Write() {
-        VotedCore x = Asm.core(Asm.load(2, 1, 0, 20), Asm.CALL);
-        Check.due("write 0, -1", x.write(5, -1), true);
-        Check.due("look at it", x.look(5), 4294967295L);
-        x.run(1);
-        Check.due("line 0 of cache 0 is full", x.bits(160) != 0, true);
-        Check.due("line 1 of cache 1 is full", x.bits(165) != 0, true);
-        Check.due("no word -1", x.write(-1, 7), false);
-        Check.due("no word 64", x.write(64, 7), false);
-        Check.due("no word of the least number", x.write(Integer.MIN_VALUE, 7), false);
-        Check.due("no word of the greatest number", x.write(Integer.MAX_VALUE, 7), false);
-        Check.due("a refused write drops nothing", x.bits(165) != 0, true);
-        Check.due("write 63", x.write(63, 9), true);
-        for (int part = 160; part < PARTS; part++) {
-            Check.due("all lines are dropped: " + part, x.bits(part), 0);
+    private static void allIsZero() {
+        Check.sentence("Promise 1", "All words, registers and lines are 0 (words and lines with their due bits)");
+        VotedCore x = new VotedCore(4);
+        for (int part = 0; part < PARTS; part++) {
+            Check.due("bits " + part, x.bits(part), 0);
         }
-        Check.due("look 63", x.look(63), 9);
-        x.flip(162, 3);
-        x.write(2, 0);
-        Check.due("a wrong line is dropped too", x.bits(162), 0);
-        Check.due("which is no refetch", x.count(3), 0);
-        x.run(1);
-        Check.due("it stopped", x.cause(), 3);
-        Check.due("write while stopped", x.write(6, 1), true);
-        Check.due("it is still stopped", x.cause(), 3);
-        x.flip(6, 3);
-        x.flip(6, 5);
-        Check.due("a broken word", x.look(6), VotedCore.BROKEN);
-        x.write(6, 2);
-        Check.due("is written anew", x.look(6), 2);
-        Check.due("which corrects nothing", x.count(0), 0);
+        for (int w = 0; w < 64; w++) {
+            Check.due("look " + w, x.look(w), 0);
+        }
+        for (int r = 0; r < 32; r++) {
+            Check.due("register " + r, x.register(r), 0);
+        }
     }
 
-    private static void promise3Set() {
-        VotedCore x = new VotedCore(1);
-        for (int r = 0; r < 32; r++) {
-            Check.due("set " + r, x.set(r, -1000 - r), true);
+    private static void itRuns() {
+        Check.sentence("Promise 1", "it runs");
+        VotedCore x = new VotedCore(4);
+        Check.due("cause", x.cause(), 0);
+        Check.due("value", x.value(), 0);
+        Check.due("no resume", x.resume(0), false);
+        Check.due("a cycle is done", x.run(1), 1);
+    }
+
+    private static void noCycleWasDone() {
+        Check.sentence("Promise 1", "no cycle was done");
+        VotedCore x = new VotedCore(4);
+        Check.due("cycles", x.cycles(), 0);
+        Check.due("planned", x.planned(), 0);
+        for (int what = 0; what < 6; what++) {
+            Check.due("count " + what, x.count(what), 0);
         }
+        VotedCore other = new VotedCore(1);
+        other.write(0, Asm.jump(0, 0));
+        other.plan(500, 1, 1);
+        other.run(9);
+        Check.due("another object's cycles are its own", x.cycles() + x.planned() + x.count(5), 0);
+    }
+
+    private static void writtenRunningOrStopped() {
+        Check.sentence("Promise 2", "Word w is written (running or stopped)");
+        for (int w = 0; w < 64; w++) {
+            VotedCore x = new VotedCore(1);
+            Whole before = Whole.of(x);
+            Check.due("write " + w, x.write(w, -w - 1), true);
+            Check.due("look " + w, x.look(w), 4294967295L - w);
+            before.staysBut("write " + w, x, w);
+        }
+        VotedCore x = Asm.core(Asm.CALL);
+        x.run(1);
+        Check.due("write while stopped", x.write(6, 1), true);
+        Check.due("look at it", x.look(6), 1);
+        Check.due("it is still stopped", x.cause(), 3);
+        Check.due("at its place", x.register(0), 0);
+    }
+
+    private static void allLinesAreDropped() {
+        Check.sentence("Promise 2", "and all lines are dropped");
+        VotedCore x = new VotedCore(64);
+        for (int w = 0; w < 4; w++) {
+            x.write(w, Asm.load(2, 1, 0, 4 * w + 80));
+        }
+        x.run(4);
+        for (int part = 160; part < PARTS; part++) {
+            Check.due("full before: " + part, x.bits(part) >> 36 & 1, 1);
+        }
+        x.write(63, 9);
+        for (int part = 160; part < PARTS; part++) {
+            Check.due("dropped: " + part, x.bits(part), 0);
+        }
+        x.flip(162, 3);
+        x.flip(166, 3);
+        x.write(2, 0);
+        Check.due("wrong lines are dropped too", x.bits(162) + x.bits(166), 0);
+        Check.due("which is no refetch", x.count(3) + x.count(4), 0);
+        x = Asm.core(Asm.load(2, 1, 0, 40), Asm.CALL);
+        x.run(2);
+        x.write(1, Asm.CALL);
+        Check.due("while stopped too", x.bits(160) + x.bits(161) + x.bits(166), 0);
+        x = Asm.core(Asm.jump(0, 0));
+        x.run(1);
+        x.write(0, Asm.BREAK);
+        x.run(1);
+        Check.due("the new instruction is done", x.cause(), 4);
+    }
+
+    private static void noWordToWrite() {
+        Check.sentence("Promise 2", "false when there is no such word");
+        for (int i = 0; i < 2; i++) {
+            VotedCore x = Whole.busy(i == 1);
+            Whole before = Whole.of(x);
+            for (int w : new int[] {-1, 64, -64, 65, 100, 256, MIN, MAX}) {
+                Check.due("write " + w, x.write(w, 7), false);
+            }
+            before.stays("no write", x);
+        }
+    }
+
+    private static void allCopiesAreSet() {
+        Check.sentence("Promise 3", "All copies of register r (0: the place, any value) get a value");
         for (int r = 0; r < 32; r++) {
-            for (int c = 0; c < 3; c++) {
-                Check.due("copy " + c + " of " + r, x.bits(64 + 3 * r + c), 4294966296L - r);
+            VotedCore x = new VotedCore(1);
+            Check.due("set " + r, x.set(r, -1000 - r), true);
+            for (int part = 0; part < PARTS; part++) {
+                boolean isCopy = part >= 64 + 3 * r && part < 67 + 3 * r;
+                Check.due("part " + part, x.bits(part), isCopy ? 4294966296L - r : 0);
             }
         }
-        Check.due("set 32", x.set(32, 1), false);
-        Check.due("set -1", x.set(-1, 1), false);
-        Check.due("set of the greatest number", x.set(Integer.MAX_VALUE, 1), false);
-        Check.due("set of the least number", x.set(Integer.MIN_VALUE, 1), false);
-        Check.due("the place may be odd", x.set(0, 5), true);
-        x.run(1);
-        Check.due("it went there", x.value(), 5);
-        Check.due("set while stopped", x.set(0, 8), true);
-        Check.due("the place is set", x.register(0), 8);
-        Check.due("it is still stopped", x.cause(), 1);
+        VotedCore x = new VotedCore(64);
         x.flip(67, 1);
         x.set(1, 12);
         x.run(1);
-        Check.due("set made all copies equal", x.bits(67), 12);
+        Check.due("a wrong copy is overwritten", x.bits(67), 12);
+        Check.due("no vote was needed", x.count(2), 0);
     }
 
-    private static void promise4Register() {
+    private static void thePlaceIsSet() {
+        Check.sentence("Promise 3", "(0: the place, any value)");
+        for (int place : new int[] {0, 1, 2, 252, 255, 256, -1, -4, MIN, MAX}) {
+            VotedCore x = new VotedCore(1);
+            Check.due("set 0, " + place, x.set(0, place), true);
+            Check.due("the place", x.register(0), place);
+            x.run(1);
+            boolean fine = place == 0 || place == 252;
+            Check.due("cause at " + place, x.cause(), fine ? 2 : 1);
+            Check.due("value at " + place, x.value(), fine ? 0 : place);
+            Check.due("set while stopped", x.set(0, 8), true);
+            Check.due("the place is set", x.register(0), 8);
+            Check.due("it is still stopped", x.cause(), fine ? 2 : 1);
+        }
+    }
+
+    private static void noRegisterToSet() {
+        Check.sentence("Promise 3", "false when r is not 0 .. 31");
+        for (int i = 0; i < 2; i++) {
+            VotedCore x = Whole.busy(i == 1);
+            Whole before = Whole.of(x);
+            for (int r : new int[] {-1, 32, -32, 33, 64, 96, MIN, MAX}) {
+                Check.due("set " + r, x.set(r, 1), false);
+            }
+            before.stays("no set", x);
+            Check.due("set 31", x.set(31, 5), true);
+            Check.due("set 0", x.set(0, 5), true);
+        }
+    }
+
+    private static void registerTells() {
+        Check.sentence("Promise 4", "The value of register r (0: the place), what two copies say");
         VotedCore x = new VotedCore(1);
         x.set(9, 0x0F0F0F0F);
         x.flip(64 + 27, 31);
         Check.due("one wrong copy", x.register(9), 0x0F0F0F0F);
         x.flip(64 + 28, 4);
         Check.due("another bit of the second copy", x.register(9), 0x0F0F0F0F);
-        x.flip(64 + 29, 0);
-        Check.due("another bit of the third copy", x.register(9), 0x0F0F0F0F);
         x.flip(64 + 29, 31);
         Check.due("two copies say otherwise of bit 31", x.register(9), 0x8F0F0F0F);
-        x.flip(64 + 28, 0);
-        Check.due("two copies say otherwise of bit 0", x.register(9), 0x8F0F0F0E);
-        x.flip(64 + 27, 4);
-        Check.due("two copies say otherwise of bit 4", x.register(9), 0x8F0F0F1E);
-        Check.due("asking changes no copy", x.bits(64 + 27), 0x8F0F0F1FL);
-        x.set(0, 77);
-        Check.due("register 0 is the place", x.register(0), 77);
-        Check.due("register 32", x.register(32), 0);
-        Check.due("register -1", x.register(-1), 0);
-        Check.due("register of the greatest number", x.register(Integer.MAX_VALUE), 0);
-        Check.due("register of the least number", x.register(Integer.MIN_VALUE), 0);
+        x.flip(64 + 29, 4);
+        Check.due("two copies say otherwise of bit 4", x.register(9), 0x8F0F0F1F);
+        Check.due("asking changes no copy", x.bits(64 + 27), 0x8F0F0F0FL);
+        for (int r = 0; r < 32; r++) {
+            x.set(r, MIN + r);
+        }
+        for (int r = 0; r < 32; r++) {
+            Check.due("register " + r, x.register(r), MIN + r);
+        }
     }
 
-    private static void promise5Look() {
+    private static void noRegisterToTell() {
+        Check.sentence("Promise 4", "0 when there is none");
+        VotedCore x = new VotedCore(1);
+        for (int r = 0; r < 32; r++) {
+            x.set(r, -1);
+        }
+        for (int r : new int[] {-1, 32, -32, 33, 64, MIN, MAX}) {
+            Check.due("register " + r, x.register(r), 0);
+        }
+        Check.due("register 31", x.register(31), -1);
+        Check.due("register 0", x.register(0), -1);
+    }
+
+    private static void lookTells() {
+        Check.sentence("Promise 5", "The value that reading word w would give, from 0 to 2^32 - 1");
+        VotedCore x = new VotedCore(1);
+        int[] values = {0, 1, MAX, MIN, -2, -1};
+        long[] due = {0, 1, 2147483647L, 2147483648L, 4294967294L, 4294967295L};
+        for (int i = 0; i < values.length; i++) {
+            x.write(63, values[i]);
+            Check.due("look at " + values[i], x.look(63), due[i]);
+        }
+        x.write(0, 5);
+        Check.due("look 0", x.look(0), 5);
+        x = Asm.core(Asm.load(2, 1, 0, 40), Asm.NOP);
+        x.write(10, 7);
+        x.run(1);
+        x.flip(10, 3);
+        x.flip(10, 5);
+        Check.due("a line that holds the word is not asked", x.look(10), VotedCore.BROKEN);
+    }
+
+    private static void lookPutsNothingRight() {
+        Check.sentence("Promise 5", "nothing being put right");
         VotedCore x = new VotedCore(1);
         x.write(63, 0x80000001);
-        Check.due("a good word", x.look(63), 0x80000001L);
         long good = x.bits(63);
         for (int bit = 0; bit < 39; bit++) {
             x.flip(63, bit);
             Check.due("the value behind wrong bit " + bit, x.look(63), 0x80000001L);
-            Check.due("nothing is put right", x.bits(63), good ^ 1L << bit);
+            Check.due("the bits", x.bits(63), good ^ 1L << bit);
             x.flip(63, bit);
         }
         Check.due("nothing is counted", x.count(0), 0);
+        x = Whole.busy(false);
+        Whole before = Whole.of(x);
+        for (int w = 0; w < 64; w++) {
+            x.look(w);
+        }
+        before.stays("look at every word", x);
+    }
+
+    private static void lookAtABrokenWord() {
+        Check.sentence("Promise 5", "BROKEN");
+        VotedCore x = new VotedCore(1);
         x.flip(63, 0);
         x.flip(63, 38);
-        Check.due("a broken word", x.look(63), -2);
+        Check.due("the last word", x.look(63), -2);
+        x.flip(0, 1);
+        x.flip(0, 2);
+        Check.due("the first word", x.look(0), -2);
         Check.due("nothing is detected", x.count(1), 0);
-        Check.due("look 64", x.look(64), -1);
-        Check.due("look -1", x.look(-1), -1);
-        Check.due("look at the greatest number", x.look(Integer.MAX_VALUE), -1);
-        Check.due("look at the least number", x.look(Integer.MIN_VALUE), -1);
+        Check.due("nothing stops", x.cause(), 0);
     }
 
-    private static void promise6Bits() {
-        VotedCore x = Asm.core(Asm.load(2, 1, 0, 60), Asm.NOP);
+    private static void noWordToLookAt() {
+        Check.sentence("Promise 5", "BAD when there is no such word");
+        VotedCore x = Whole.busy(false);
+        for (int w : new int[] {-1, 64, -64, 65, 128, MIN, MAX}) {
+            Check.due("look " + w, x.look(w), -1);
+        }
+        Check.due("look 63", x.look(63), 99);
+    }
+
+    private static void partsAndTheirNumbers() {
+        Check.sentence("Terms, parts", "PARTS that may flip: 0 .. 63 the words; 64 + 3 r + c copy c of register r; 160 .. 163 the lines of cache 0, 164 .. 167 those of cache 1.");
+        VotedCore x = new VotedCore(64);
+        x.write(0, Asm.add(1, 0, 1));
+        x.write(63, Asm.load(2, 31, 0, 0));
+        Check.due("part 0 is word 0", x.bits(0) != 0, true);
+        Check.due("part 63 is word 63", x.bits(63) != 0, true);
+        Check.due("part 64 is none", x.bits(64), 0);
+        x.set(0, 252);
+        Check.due("part 64 is copy 0 of the place", x.bits(64), 252);
+        Check.due("part 66 is copy 2 of the place", x.bits(66), 252);
+        x.run(1);
+        Check.due("part 157 is copy 0 of register 31", x.bits(157), Asm.add(1, 0, 1));
+        Check.due("part 159 is copy 2 of register 31", x.bits(159), Asm.add(1, 0, 1));
+        Check.due("part 160 is line 0 of cache 0", x.bits(160), 0);
+        Check.due("part 163 is line 3 of cache 0", x.bits(163) & 0xFFFFFFFFL, Asm.load(2, 31, 0, 0));
+        Check.due("part 164 is line 0 of cache 1", x.bits(164) & 0xFFFFFFFFL, Asm.add(1, 0, 1));
+        Check.due("part 167 is line 3 of cache 1", x.bits(167), 0);
+    }
+
+    private static void bitsTell() {
+        Check.sentence("Promise 6", "The bits of a part (bit 0 counts 1)");
+        VotedCore x = new VotedCore(1);
         x.write(15, 1);
         // Bit 3 is the value; 1 and 2 make the numbers' exclusive or 0, bit 0 makes the count even.
-        Check.due("bits of a word", x.bits(15), 0b1111);
+        Check.due("a word", x.bits(15), 0b1111);
         x.set(31, -1);
-        Check.due("bits of the last copy", x.bits(159), 4294967295L);
-        x.run(1);
-        // The value 1, the tag 3, full: four ones, and so a parity of 0.
-        Check.due("bits of a line of cache 1", x.bits(167), 1L | 3L << 32 | 1L << 36);
-        Check.due("bits of a line of cache 0", x.bits(160) & 0xFFFFFFFFL, Asm.load(2, 1, 0, 60));
-        Check.due("its tag and that it is full", x.bits(160) >> 32 & 31, 16);
-        Check.due("bits 168", x.bits(168), -1);
-        Check.due("bits -1", x.bits(-1), -1);
-        Check.due("bits of the greatest number", x.bits(Integer.MAX_VALUE), -1);
-        Check.due("bits of the least number", x.bits(Integer.MIN_VALUE), -1);
+        Check.due("a copy has no sign", x.bits(159), 4294967295L);
+        x.flip(167, 0);
+        x.flip(167, 37);
+        Check.due("a line", x.bits(167), 1 + (1L << 37));
+        x.flip(15, 38);
+        Check.due("a wrong word as it is", x.bits(15), 0b1111 + (1L << 38));
+        x = Whole.busy(true);
+        Whole.of(x).stays("asking changes nothing", x);
     }
 
-    private static void promise7Flip() {
+    private static void noPartToTell() {
+        Check.sentence("Promise 6", "BAD when there is none");
+        VotedCore x = Whole.busy(false);
+        for (int part : new int[] {-1, 168, -168, 169, 256, MIN, MAX}) {
+            Check.due("bits " + part, x.bits(part), -1);
+        }
+        Check.due("bits 167", x.bits(167) >= 0, true);
+        Check.due("bits 0", x.bits(0) >= 0, true);
+    }
+
+    private static int width(int part) {
+        return part < 64 ? 39 : part < 160 ? 32 : 38;
+    }
+
+    private static void flipNow() {
+        Check.sentence("Promise 7", "Flips a bit of a part now");
         for (int part = 0; part < PARTS; part++) {
-            int width = part < 64 ? 39 : part < 160 ? 32 : 38;
-            flipEveryBit(part, width);
+            VotedCore x = new VotedCore(1);
+            for (int bit = 0; bit < width(part); bit++) {
+                Check.due("flip " + part + ", " + bit, x.flip(part, bit), true);
+                Check.due("bits " + part, x.bits(part), (1L << bit + 1) - 1);
+            }
+            for (int bit = 0; bit < width(part); bit++) {
+                x.flip(part, bit);
+            }
+            Whole.of(new VotedCore(1)).stays("flipped back, part " + part, x);
         }
-        VotedCore x = new VotedCore(1);
-        Check.due("flip part 168", x.flip(168, 0), false);
-        Check.due("flip part -1", x.flip(-1, 0), false);
-        Check.due("flip the greatest part", x.flip(Integer.MAX_VALUE, 0), false);
-        Check.due("flip the least part", x.flip(Integer.MIN_VALUE, 0), false);
+        VotedCore x = Whole.busy(true);
+        Whole before = Whole.of(x);
+        long bits = x.bits(62);
+        Check.due("while stopped", x.flip(62, 0), true);
+        Check.due("its bits", x.bits(62), bits ^ 1);
+        before.staysBut("the rest", x, 62);
     }
 
-    private static void flipEveryBit(int part, int width) {
-        VotedCore x = new VotedCore(1);
-        for (int bit = 0; bit < width; bit++) {
-            Check.due("flip " + part + ", " + bit, x.flip(part, bit), true);
-            Check.due("bits " + part, x.bits(part), (1L << bit + 1) - 1);
+    private static void noPartToFlip() {
+        Check.sentence("Promise 7", "false when there is no such part");
+        VotedCore x = Whole.busy(false);
+        Whole before = Whole.of(x);
+        for (int part : new int[] {-1, 168, -64, 169, 256, MIN, MAX}) {
+            Check.due("flip part " + part, x.flip(part, 0), false);
+            Check.due("flip part " + part + ", bit -1", x.flip(part, -1), false);
         }
-        Check.due("flip back " + part, x.flip(part, width - 1), true);
-        Check.due("flip " + part + ", " + width, x.flip(part, width), false);
-        Check.due("flip " + part + ", -1", x.flip(part, -1), false);
-        Check.due("flip " + part + ", greatest", x.flip(part, Integer.MAX_VALUE), false);
-        Check.due("flip " + part + ", least", x.flip(part, Integer.MIN_VALUE), false);
-        Check.due("bits at the end " + part, x.bits(part), (1L << width - 1) - 1);
-        for (int other = 0; other < PARTS; other++) {
-            if (other != part) {
-                Check.due("the other part " + other, x.bits(other), 0);
+        before.stays("no flip", x);
+    }
+
+    private static void noBitToFlip() {
+        Check.sentence("Promise 7", "or bit (They have 39, 32 and 38 BITS.)");
+        for (int part = 0; part < PARTS; part++) {
+            VotedCore x = new VotedCore(1);
+            int width = width(part);
+            for (int bit : new int[] {width, -1, width + 1, 40, 64, -64, MIN, MAX}) {
+                Check.due("flip " + part + ", " + bit, x.flip(part, bit), false);
             }
+            Whole.of(new VotedCore(1)).stays("no flip of part " + part, x);
+            Check.due("the last bit of part " + part, x.flip(part, width - 1), true);
+            Check.due("bits of part " + part, x.bits(part), 1L << width - 1);
         }
     }
 }
