@@ -9,6 +9,7 @@ public final class CacheTest {
         droppedLines();
         wrongParityIsDropped();
         wrongParityOfInstructions();
+        wrongParityOfEachLine();
         aFullLineIsUsed();
         anEmptyLineIsNotUsed();
         anotherTagIsNotUsed();
@@ -138,6 +139,27 @@ public final class CacheTest {
             Check.due("bit " + bit + ": the line", x.bits(160), line(Asm.jump(0, 0), 0));
             x.run(1);
             Check.due("bit " + bit + ": once", x.count(3), 1);
+        }
+    }
+
+    private static void wrongParityOfEachLine() {
+        Check.sentence("Terms, caches", "To FETCH word w through a cache: line w % 4 is dropped if its parity is wrong");
+        for (int i = 0; i < 4; i++) {
+            VotedCore x = new VotedCore(64);
+            x.write(40 + i, Asm.load(2, 1, 0, 4 * (20 + i)));
+            x.write(20 + i, 7);
+            x.set(0, 4 * (40 + i));
+            for (int part = 160; part < 168; part++) {
+                x.flip(part, 9);
+            }
+            x.run(1);
+            Check.due("refetched of cache 0, line " + i, x.count(3), 1);
+            Check.due("refetched of cache 1, line " + i, x.count(4), 1);
+            for (int other = 0; other < 4; other++) {
+                Check.due("line " + other + " of cache 0", x.bits(160 + other) == 512, other != i);
+                Check.due("line " + other + " of cache 1", x.bits(164 + other) == 512, other != i);
+            }
+            Check.due("the value", x.register(1), 7);
         }
     }
 
@@ -298,14 +320,22 @@ public final class CacheTest {
         x.run(1);
         Check.due("only cache 0 is wrong", 10 * x.count(3) + x.count(4), 10);
         Check.due("cache 1 gets the value", x.bits(166), line(99, 10));
-        x = Asm.core(Asm.NOP, Asm.store(2, 5, 0, 56));
-        x.flip(162, 1);
-        x.flip(166, 3);
-        x.flip(167, 3);
-        x.run(2);
-        Check.due("empty lines that are wrong", x.bits(162) + x.bits(166), 0);
-        Check.due("are counted", 10 * x.count(3) + x.count(4), 11);
-        Check.due("another line that is wrong stays", x.bits(167), 8);
+        for (int i = 0; i < 4; i++) {
+            int codeLine = (i + 1) % 4;
+            x = new VotedCore(64);
+            x.write(40 + codeLine, Asm.store(2, 5, 0, 4 * (20 + i)));
+            x.set(0, 4 * (40 + codeLine));
+            for (int part = 160; part < 168; part++) {
+                // The instruction's own line stays right, so that only the saving counts.
+                if (part != 160 + codeLine) {
+                    x.flip(part, 9);
+                }
+            }
+            x.run(1);
+            Check.due("empty lines " + i + " that are wrong", x.bits(160 + i) + x.bits(164 + i), 0);
+            Check.due("are counted", 10 * x.count(3) + x.count(4), 11);
+            Check.due("other lines " + i + " that are wrong stay", x.bits(160 + (i + 2) % 4) + x.bits(164 + (i + 2) % 4), 1024);
+        }
     }
 
     private static void savingIntoLines() {

@@ -206,6 +206,9 @@ public final class CycleTest {
             Check.due("corrected: " + w, x.count(0), w);
         }
         Check.due("none was broken", x.count(1), 0);
+        for (int line = 161; line < 168; line++) {
+            Check.due("no line is filled by it: " + line, x.bits(line), 0);
+        }
         x = new VotedCore(1);
         x.write(10, Asm.jump(0, 0));
         x.set(0, 40);

@@ -298,6 +298,11 @@ public final class InstructionsTest {
             goes("a whole word is not read before it is saved: " + w, x, 1, 0, 4 * codeAt + 4);
         }
         stops("a load into register 0", broken(Asm.core(Asm.load(2, 0, 0, 40)), 10), 5, 10);
+        for (int instruction : new int[] {Asm.load(2, 1, 0, 40), Asm.store(0, 1, 0, 40)}) {
+            VotedCore x = broken(Asm.core(instruction), 10);
+            x.run(1);
+            Check.due("DETECTED is the scrubber's alone: " + instruction, x.count(1), 0);
+        }
     }
 
     private static void aStopChangesNothing() {
@@ -538,6 +543,9 @@ public final class InstructionsTest {
             loads(5, i, 0xFFFF << 8 * i, 65535);
         }
         loads(1, 0, 0x81F27384, 0x7384);
+        loads(5, 0, 0x81F27384, 0x7384);
+        loads(1, 0, 0x7FFF8000, -32768);
+        loads(5, 0, 0x7FFF8000, 32768);
         loads(1, 2, 0x81F27384, 0xFFFF81F2);
         loads(5, 2, 0x81F27384, 0x81F2);
         for (int value : new int[] {0, 1, -1, MIN, MAX, 0x81F27384}) {
@@ -591,6 +599,11 @@ public final class InstructionsTest {
             broken(x, 10);
             x.run(1);
             Check.due("a full line is used, F " + f, x.look(10), f == 0 ? 0x11003344L : 0x00003344L);
+            x = Asm.core(Asm.store(f, 5, 0, 42));
+            x.flip(166, 37);
+            x.run(1);
+            Check.due("a wrong line is dropped once, F " + f, x.count(4), 1);
+            Check.due("and filled, F " + f, x.bits(166) >> 36 & 1, 1);
         }
         VotedCore x = with(Asm.core(Asm.store(2, 5, 0, 40)), 5, 6);
         x.flip(10, 6);
@@ -692,15 +705,17 @@ public final class InstructionsTest {
         stops("the place before CHECK", with(broken(Asm.core(-1), 0), 0, 2), 1, 2);
         stops("CHECK before ILLEGAL", broken(Asm.core(-1), 0), 5, 0);
         stops("CHECK before addresses", broken(Asm.core(Asm.load(2, 1, 0, 41)), 0), 5, 0);
-        int load = Asm.load(3, 1, 0, 1);
-        stops("ILLEGAL before addresses, load", Asm.core(load), 2, load);
-        int store = Asm.store(3, 1, 0, 257);
-        stops("ILLEGAL before addresses, store", Asm.core(store), 2, store);
+        for (int address : new int[] {1, 257, -1}) {
+            int load = Asm.load(3, 1, 0, address);
+            stops("ILLEGAL before addresses, load at " + address, Asm.core(load), 2, load);
+            int store = Asm.store(3, 1, 0, address);
+            stops("ILLEGAL before addresses, store at " + address, Asm.core(store), 2, store);
+        }
         int jump = Asm.withI(103, 1, 1, 0, 2);
         stops("ILLEGAL before the target, jump", Asm.core(jump), 2, jump);
         int branch = Asm.branch(2, 0, 0, 6);
         stops("ILLEGAL before the target, branch", Asm.core(branch), 2, branch);
-        load = Asm.load(7, 1, 0, 40);
+        int load = Asm.load(7, 1, 0, 40);
         stops("ILLEGAL before CHECK of data", broken(Asm.core(load), 10), 2, load);
         stops("addresses before CHECK of data, word", broken(Asm.core(Asm.load(2, 1, 0, 41)), 10), 1, 41);
         stops("addresses before CHECK of data, half", broken(Asm.core(Asm.load(5, 1, 0, 43)), 10), 1, 43);

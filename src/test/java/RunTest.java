@@ -175,6 +175,10 @@ public final class RunTest {
             Check.due("it runs", x.run(1), 1);
             Check.due("from there", x.register(0), 4);
         }
+        VotedCore x = Whole.busy(true);
+        Whole before = Whole.of(x);
+        x.resume(16);
+        before.staysWhenResumed(x);
     }
 
     private static void resumesAnywhere() {
@@ -333,11 +337,14 @@ public final class RunTest {
             x.flip(w, 0);
             x.flip(w, 38);
         }
-        for (int call = 131; call < 510; call++) {
+        for (int call = 131; call < 507; call++) {
             x.run(500);
         }
-        x.plan(1000, 70, 0);
+        Check.due("a late plan", x.plan(500, 70, 0), true);
+        Check.due("is planned", x.planned(), 1);
         x.run(500);
-        Check.due("a broken word in each cycle", x.count(1), 190000);
+        Check.due("and made", x.planned(), 0);
+        Check.due("and voted on", x.count(2), 1);
+        Check.due("a broken word in each cycle", x.count(1), 188500);
     }
 }

@@ -103,7 +103,7 @@ public final class StateTest {
             Whole before = Whole.of(x);
             Check.due("write " + w, x.write(w, -w - 1), true);
             Check.due("look " + w, x.look(w), 4294967295L - w);
-            before.staysBut("write " + w, x, w);
+            before.staysBut("write " + w, x, w, w);
         }
         VotedCore x = Asm.core(Asm.CALL);
         x.run(1);
@@ -367,7 +367,7 @@ public final class StateTest {
         long bits = x.bits(62);
         Check.due("while stopped", x.flip(62, 0), true);
         Check.due("its bits", x.bits(62), bits ^ 1);
-        before.staysBut("the rest", x, 62);
+        before.staysBut("the rest", x, 62, 62);
     }
 
     private static void noPartToFlip() {

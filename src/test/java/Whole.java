@@ -2,6 +2,10 @@
 final class Whole {
     private static final int PARTS = 168;
     private static final int COUNTS = 6;
+    private static final int PLANNED = PARTS + COUNTS;
+    private static final int CYCLES = PLANNED + 1;
+    private static final int CAUSE = PLANNED + 2;
+    private static final int VALUE = PLANNED + 3;
 
     private final long[] told;
 
@@ -10,17 +14,17 @@ final class Whole {
     }
 
     static Whole of(VotedCore x) {
-        long[] told = new long[PARTS + COUNTS + 4];
+        long[] told = new long[VALUE + 1];
         for (int part = 0; part < PARTS; part++) {
             told[part] = x.bits(part);
         }
         for (int what = 0; what < COUNTS; what++) {
             told[PARTS + what] = x.count(what);
         }
-        told[PARTS + COUNTS] = x.planned();
-        told[PARTS + COUNTS + 1] = x.cycles();
-        told[PARTS + COUNTS + 2] = x.cause();
-        told[PARTS + COUNTS + 3] = x.value();
+        told[PLANNED] = x.planned();
+        told[CYCLES] = x.cycles();
+        told[CAUSE] = x.cause();
+        told[VALUE] = x.value();
         return new Whole(told);
     }
 
@@ -29,26 +33,32 @@ final class Whole {
         if (i < PARTS) {
             return "bits " + i;
         }
-        String[] others = {"count 0", "count 1", "count 2", "count 3", "count 4", "count 5", "planned", "cycles", "cause", "value"};
-        return others[i - PARTS];
+        if (i < PLANNED) {
+            return "count " + (i - PARTS);
+        }
+        return i == PLANNED ? "planned" : i == CYCLES ? "cycles" : i == CAUSE ? "cause" : "value";
     }
 
     /** Asks the object again, and finds all as it was. */
     void stays(String what, VotedCore x) {
-        Whole now = of(x);
-        for (int i = 0; i < told.length; i++) {
-            Check.due(what + ": " + name(i), now.told[i], told[i]);
-        }
+        staysBut(what, x, -1, -1);
     }
 
-    /** The same, but for the one part that is named. */
-    void staysBut(String what, VotedCore x, int part) {
+    /** The same, but for the parts from one to another. */
+    void staysBut(String what, VotedCore x, int first, int last) {
         Whole now = of(x);
         for (int i = 0; i < told.length; i++) {
-            if (i != part) {
+            if (i < first || i > last) {
                 Check.due(what + ": " + name(i), now.told[i], told[i]);
             }
         }
+    }
+
+    /** What resuming leaves: all but the place, the cause and the value. */
+    void staysWhenResumed(VotedCore x) {
+        told[CAUSE] = 0;
+        told[VALUE] = 0;
+        staysBut("resumed", x, 64, 66);
     }
 
     /**
