@@ -249,14 +249,9 @@ public final class CycleTest {
             Check.due("after cycle " + cycle, x.count(5), cycle % 64);
         }
         x = looping(64);
-        x.run(500);
-        x.run(500);
-        x.run(500);
-        x.run(500);
-        x.run(500);
-        x.run(500);
-        x.run(500);
-        x.run(500);
+        for (int i = 0; i < 8; i++) {
+            x.run(500);
+        }
         x.run(95);
         Check.due("before the last word, every 64", x.count(5), 63);
         x.run(1);
